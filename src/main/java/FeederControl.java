@@ -443,7 +443,7 @@ public final class FeederControl {
         return code;
     }
 
-    /** A regulator's place at the upper end of a segment; an absent one keeps its tap at 0, which changes no voltage. */
+    /** A regulator's place on a segment; an absent one keeps its tap at 0, which changes no voltage. */
     private static final class Regulator {
         boolean present;
         int center;

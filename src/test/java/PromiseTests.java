@@ -554,13 +554,13 @@ public final class PromiseTests {
         due("P13 lowest tap", y.tap(1), 84);
         due("P13 at the limit it wants nothing", y.timer(1), 0);
         FeederControl z = oneNode(-2);
-        z.addRegulator(1, 11000, 10, 1, 1);
-        due("P13 reverse flow", z.run(5), 0);
+        z.addRegulator(1, 11000, 10, 9, 1);
+        due("P13 reverse flow", z.run(15), 0);
         due("P13 reverse flow", z.timer(1), 0);
         z.setLoad(1, 0, 0);
-        due("P13 a flow of 0 is not reverse", z.run(2), 1);
-        z.run(1);
-        due("P13 timer", z.timer(1), 1);
+        due("P13 a flow of 0 is not reverse", z.run(10), 1);
+        z.run(4);
+        due("P13 timer", z.timer(1), 4);
         z.setLoad(1, -1, 0);
         z.run(1);
         due("P13 reverse flow ends it", z.timer(1), 0);
@@ -981,6 +981,11 @@ public final class PromiseTests {
         due("P23 each node each minute", x.violations(), 15);
         due("P23 undo", x.undo(), 2);
         due("P23 undone", x.violations(), 0);
+        for (int k = 4; k <= 8; k++) {
+            x.addNode(0, 0, 0, 0);
+        }
+        x.run(2);
+        due("P23 the 8th node counts too", x.violations(), 16);
         FeederControl y = oneNode(500);
         y.setSource(9745);
         y.addRegulator(1, 10000, 400, 0, 0);
@@ -1057,6 +1062,7 @@ public final class PromiseTests {
         planGoesUpLate();
         planGoesDownAtOnce();
         planGoesBothWays();
+        planAtTheEndsOfTheTaps();
         planMissing();
     }
 
@@ -1119,6 +1125,39 @@ public final class PromiseTests {
         planIs(z, 1, 0, 0, 0, 0, 0, 0, 0, 0, 0, 0, 0, 0, 0, 0, 0, 0, 0, 0, 0, 0, 5, 3);
         FeederControl none = withTwoBanks(0, 20, 21);
         due("P25 the banks in hour 20 itself help", none.planSteps(1), 0);
+    }
+
+    private static void planAtTheEndsOfTheTaps() {
+        // 9000 gives 9900 at tap 16 and 9843 at tap 15; a load of 500 takes off 250
+        FeederControl up = planned(9000, 0, "");
+        up.addNode(50, 0, 150, 0);
+        due("P25 both segments carry 150", up.voltage(2), 8600);
+        due("P25 16 steps up", up.planSteps(1), 16);
+        planIs(up, 1, 16);
+        up.setLoad(2, 151, 0);
+        due("P25 still 9900 - 325 - 75", up.planSteps(1), 16);
+        up.setLoad(2, 152, 0);
+        due("P25 there is no tap 17", up.planSteps(1), MISSING);
+        // 11000 gives 9900 at tap -16 and 9968 at tap -15
+        FeederControl down = planned(11000, 0, "");
+        down.setLoad(1, -500, 0);
+        down.addNode(50, 0, -233, 0);
+        due("P25 9900 + 366 + 116; at tap -15 10450", down.planSteps(1), 15);
+        down.setLoad(2, -300, 0);
+        due("P25 9900 + 400 + 150; at tap -15 10518", down.planSteps(1), 16);
+        planIs(down, 1, -16);
+        down.setLoad(2, -350, 0);
+        due("P25 9900 + 425 + 175", down.planSteps(1), 16);
+        down.setLoad(2, -352, 0);
+        due("P25 there is no tap -17", down.planSteps(1), MISSING);
+        // a drop of 750 asks for tap -10 (10312), a rise of 250 for tap -11 (10243) at most
+        FeederControl again = planned(11000, -16, "");
+        again.addNode(50, 0, 500, 0);
+        due("P25 6 steps up", again.planSteps(1), 6);
+        again.setLoad(2, 0, 0);
+        again.setLoad(1, -500, 0);
+        due("P25 nothing of an earlier plan stays", again.planSteps(1), 0);
+        planIs(again, 1, -16);
     }
 
     private static void planMissing() {
@@ -1234,6 +1273,20 @@ public final class PromiseTests {
         due("P26 the opposite steps were kept with the state", x.isLocked(1), 1);
         due("P26 the text stays", x.clearText(), 4);
         due("P26 the counters stay", x.errorCount(-2), 1);
+        FeederControl turns = oneNode(0);
+        turns.addRegulator(1, 10000, 100, 0, 0);
+        swing(turns, 3);
+        turns.undo();
+        due("P26 the second opposite step again", turns.run(1), 1);
+        due("P26 it is still the second", turns.isLocked(1), 0);
+        FeederControl full = new FeederControl();
+        for (int k = 1; k <= 8; k++) {
+            full.addNode(0, 0, 10 * k, k);
+        }
+        full.setLoad(8, 1, 2);
+        full.undo();
+        due("P26 the 8th node's P", full.activeFlow(8), 10080);
+        due("P26 the 8th node's Q", full.reactiveFlow(8), 10008);
         FeederControl y = oneNode(500);
         y.addRegulator(1, 10000, 100, 9, 0);
         y.run(4);
