@@ -13,8 +13,9 @@ import java.util.TreeMap;
  * whole rows of taps compared. The runs are the same each time, for the numbers come from a fixed rule.
  */
 public final class ModelTests {
-    private static final int RUNS = 600;
-    private static final int CALLS = 512;
+    private static final int RUNS = 1200;
+    /** Each is followed by a digest, and the document promises nothing about an object after its 512th call. */
+    private static final int CALLS = 256;
     private static final int PLANS = 400;
 
     public static void main(String[] args) {
