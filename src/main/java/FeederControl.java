@@ -748,13 +748,7 @@ public final class FeederControl {
                 countStepsAfter(feeder, segment, hour);
                 countStepsFrom(hour);
             }
-            int present = feeder.nodes[segment].regulator.tap + MAX_TAP;
-            steps = stepsFrom[present];
-            if (steps >= IMPOSSIBLE) {
-                return false;
-            }
-            chooseTaps(present);
-            return true;
+            return chooseTaps(feeder.nodes[segment].regulator.tap + MAX_TAP);
         }
 
         private void countStepsAfter(Feeder feeder, int segment, int hour) {
@@ -779,22 +773,34 @@ public final class FeederControl {
             }
         }
 
-        /** The lowest of the best taps, hour by hour from the first on, gives the plan that the document prefers. */
-        private void chooseTaps(int present) {
+        /** The lowest of the best taps, hour by hour from the first on, is the document's plan; false if none is. */
+        private boolean chooseTaps(int present) {
+            steps = 0;
             int before = present;
             for (int hour = 0; hour < HOURS; hour++) {
-                int best = 0;
-                int bestSteps = Integer.MAX_VALUE;
-                for (int i = 0; i < TAPS; i++) {
-                    int total = Math.abs(i - before) + stepsAfter[hour][i];
-                    if (total < bestSteps) {
-                        best = i;
-                        bestSteps = total;
-                    }
+                int best = bestPlace(hour, before);
+                if (best < 0) {
+                    return false;
                 }
+                steps += Math.abs(best - before);
                 taps[hour] = best - MAX_TAP;
                 before = best;
             }
+            return true;
+        }
+
+        /** The place of the lowest of the hour's best taps, or -1 if none leads through the rest of the day. */
+        private int bestPlace(int hour, int before) {
+            int best = -1;
+            int bestSteps = IMPOSSIBLE;
+            for (int i = 0; i < TAPS; i++) {
+                int total = Math.abs(i - before) + stepsAfter[hour][i];
+                if (total < bestSteps) {
+                    best = i;
+                    bestSteps = total;
+                }
+            }
+            return best;
         }
     }
 
