@@ -29,6 +29,10 @@ public final class FaceTests {
     public static void main(String[] args) throws IOException {
         face();
         nestedClasses();
+        rules(FeederControl.class);
+        for (Class<?> c : FeederControl.class.getDeclaredClasses()) {
+            rules(c);
+        }
         source(Files.readString(Path.of(SOURCE)));
         System.out.println("FaceTests: " + wrong + " wrong");
         if (wrong != 0) {
@@ -89,15 +93,86 @@ public final class FaceTests {
         for (Class<?> c : classes) {
             due(c + " static", Modifier.isStatic(c.getModifiers()), true);
             due(c + " hidden", Modifier.isPublic(c.getModifiers()) || Modifier.isProtected(c.getModifiers()), false);
-            for (Field f : c.getDeclaredFields()) {
-                boolean mutableStatic = Modifier.isStatic(f.getModifiers()) && !Modifier.isFinal(f.getModifiers());
-                due(f + " static but not final", mutableStatic, false);
-            }
+            due(c + " has no class inside", c.getDeclaredClasses().length, 0);
         }
     }
 
+    /** Rules 3, 5 and 11: the types of fields, static fields, the numbers of parameters and fields. */
+    private static void rules(Class<?> c) {
+        int fields = 0;
+        for (Field f : c.getDeclaredFields()) {
+            if (Modifier.isStatic(f.getModifiers())) {
+                due(f + " final", Modifier.isFinal(f.getModifiers()), true);
+                due(f + " is a number", f.getType() == int.class || f.getType() == long.class, true);
+            } else {
+                fields++;
+                due(f + " has a type allowed", isAllowed(f.getType()), true);
+            }
+        }
+        due(c + " has some twenty fields at most", fields <= 20, true);
+        for (Method m : c.getDeclaredMethods()) {
+            due(m + " has seven parameters at most", m.getParameterCount() <= 7, true);
+            due(m + " needs no other method of the compiler's", m.isSynthetic(), false);
+        }
+    }
+
+    private static boolean isAllowed(Class<?> type) {
+        Class<?> part = type.isArray() ? type.getComponentType() : type;
+        if (part.isArray()) {
+            return part.getComponentType().isPrimitive();
+        }
+        return part.isPrimitive() || part.getName().startsWith("FeederControl$");
+    }
+
+    private static String withoutComments(String text) {
+        return text.replaceAll("(?s)/\\*.*?\\*/", "").replaceAll("//[^\n]*", "");
+    }
+
+    /** Rule 4: no name of the library but those that the class needs and the rule lists. */
+    private static void library(String code) {
+        Set<String> used = new TreeSet<>();
+        Matcher member = Pattern.compile("\\b([A-Z]\\w*[a-z]\\w*)\\s*\\.\\s*(\\w+)").matcher(code);
+        while (member.find()) {
+            used.add(member.group(1) + "." + member.group(2));
+        }
+        due("the library's members in use", used, new TreeSet<>(Arrays.asList(
+            "Math.abs", "Math.floorMod", "Math.max", "Math.min", "System.arraycopy")));
+        Set<String> names = new TreeSet<>();
+        Matcher name = Pattern.compile("\\b[A-Z]\\w*[a-z]\\w*\\b").matcher(code);
+        while (name.find()) {
+            names.add(name.group());
+        }
+        names.remove("FeederControl");
+        for (Class<?> c : FeederControl.class.getDeclaredClasses()) {
+            names.remove(c.getSimpleName());
+        }
+        due("the library's classes in use", names, new TreeSet<>(Arrays.asList("Math", "System")));
+    }
+
+    /** Rule 11: a method starts on a line of its own, four or eight signs in, and ends with a brace below its start. */
+    private static void lengths(String text) {
+        String[] lines = text.split("\n");
+        Pattern start = Pattern.compile("^( {4}| {8})(?! |if|for|while|switch|else)[\\w\\[\\]<> ]+\\([^;]*$");
+        int methods = 0;
+        for (int i = 0; i < lines.length; i++) {
+            Matcher m = start.matcher(lines[i]);
+            if (m.find()) {
+                int end = i;
+                while (end < lines.length && !lines[end].equals(m.group(1) + "}")) {
+                    end++;
+                }
+                methods++;
+                due(lines[i].trim() + " has an end", end < lines.length, true);
+                due(lines[i].trim() + " is short", end - i < 60, true);
+            }
+        }
+        due("as many methods as the public ones at least", methods > FACE.size(), true);
+    }
+
     private static void source(String text) {
-        String code = text.replaceAll("(?s)/\\*.*?\\*/", "").replaceAll("//[^\n]*", "");
+        String code = withoutComments(text);
+        library(code);
+        lengths(code);
         String barred = "\\b(throw|throws|try|catch|finally|synchronized|assert|native|import|package|Object|equals"
             + "|hashCode|toString|Exception|System\\.(?!arraycopy)\\w+|Math\\.\\w+Exact)\\b|->|::|\"";
         Matcher m = Pattern.compile(barred).matcher(code);
