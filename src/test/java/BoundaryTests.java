@@ -867,6 +867,8 @@ public final class BoundaryTests {
         promise13Turns();
         promise13TheHourReleases();
         promise13TheLowestSegment();
+        promise13WishesOverTheHour();
+        promise13WhatIsRemembered();
     }
 
     private static void promise13NoMinute() {
@@ -1219,6 +1221,98 @@ public final class BoundaryTests {
         due("P13 the 8th waits", y.timer(8), 1);
     }
 
+    /** In minute 59; node 1 is too low in hour 0 (each percent of the loads lowers it by 12), as given in hour 1. */
+    private static FeederControl wishingUp(int voltage, int percentInHour1) {
+        FeederControl x = oneNode(50, 50, 500, 300);
+        x.addNode(0, 0, 500, 300);
+        x.addNode(0, 0, 500, 300);
+        parse(x, "0:100; 1:" + percentInHour1 + ";");
+        x.setSource(voltage + 12 * percentInHour1);
+        x.run(55);
+        x.addRegulator(1, 10000, 100, 20, 0);
+        due("P13 minute 59", x.run(4), 0);
+        due("P13 minute 59", x.timer(1), 4);
+        return x;
+    }
+
+    /** The document says of the hour's beginning only that locks and numbers of opposite steps go. */
+    private static void promise13WishesOverTheHour() {
+        FeederControl same = wishingUp(9800, 90);
+        due("P13 the same wish in minute 60", same.run(1), 0);
+        due("P13 the same wish in minute 60", same.timer(1), 5);
+        FeederControl other = wishingUp(10200, 0);
+        due("P13 the opposite wish in minute 60", other.run(1), 0);
+        due("P13 the opposite wish in minute 60", other.timer(1), 1);
+        FeederControl none = wishingUp(10000, 0);
+        due("P13 no wish in minute 60", none.run(1), 0);
+        due("P13 no wish in minute 60", none.timer(1), 0);
+    }
+
+    /** In minute 11 the regulator has turned twice and wishes up for 2 minutes; the bank wishes on for 11 minutes. */
+    private static FeederControl remembering() {
+        FeederControl x = nodes(2, 0, 0, 0, 0);
+        x.setLoad(2, 0, 200);
+        x.addBank(2, 100, 2, 0, 150, 12);
+        x.addRegulator(1, 10000, 100, 2, 0);
+        for (int source : new int[] {9000, 11000, 9000}) {
+            x.setSource(source);
+            due("P13 a step in the third minute", x.run(3), 1);
+        }
+        due("P13 no step", x.run(2), 0);
+        put(x, "0:100;");
+        return x;
+    }
+
+    private static final List<Call> CALLS_THAT_LEAVE_WISHES = List.of(
+        x -> x.setSource(9000), x -> x.setSource(9500), x -> x.setLoad(1, 0, 0), x -> x.setLoad(1, 500, 0),
+        x -> x.setLoad(2, 0, 300), x -> x.setFactor(0, 100), x -> x.setFactor(0, 150), x -> x.parseProfile(),
+        x -> x.append(';'), x -> x.clearText(), x -> x.addNode(50, 50, 0, 0), x -> x.addRegulator(2, 9500, 500, 30, 0),
+        x -> x.addBank(1, 300, 0, 0, 0, 0), x -> x.addBank(1, 300, 1, 0, 0, 0), x -> x.setTap(1, 1),
+        x -> x.setTap(1, 16) + x.setTap(1, 1), x -> x.setTap(1, -16) + x.setTap(1, 1), x -> x.switchBank(2, 0),
+        x -> x.switchBank(2, 1) + x.switchBank(2, 0), x -> x.run(0), x -> x.undo(), x -> x.run(7) + x.undo(),
+        x -> x.run(1440) + x.undo(), x -> x.setTap(1, 9) + x.undo(), x -> x.setSource(11000) + x.undo(),
+        x -> x.minute(), x -> x.voltage(1), x -> x.activeFlow(1), x -> x.reactiveFlow(1), x -> x.tap(1),
+        x -> x.timer(1), x -> x.isLocked(1), x -> x.steps(1), x -> x.isOn(2), x -> x.violations(),
+        x -> x.planSteps(1), x -> x.planTap(1, 1), x -> x.errorCount(-2), x -> x.digest(),
+        x -> x.setTap(1, 17), x -> x.addRegulator(1, 10000, 100, 2, 0), x -> x.addBank(2, 100, 2, 0, 150, 12));
+
+    /** None of these calls lets time pass: timers, the minute before, the latest direction and the turns stay. */
+    private static void promise13WhatIsRemembered() {
+        for (int i = 0; i < CALLS_THAT_LEAVE_WISHES.size(); i++) {
+            String what = "P13 call " + i + " between the minutes: ";
+            FeederControl x = remembering();
+            // one more saved state, so that an undo takes back this call and not a run
+            x.setFactor(23, 50);
+            CALLS_THAT_LEAVE_WISHES.get(i).on(x);
+            due(what + "the timer", x.timer(1), 2);
+            x.setSource(11000);
+            due(what + "the opposite wish", x.run(1), 0);
+            due(what + "its timer", x.timer(1), 1);
+            due(what + "the bank's timer was 12 and is 13", x.run(1), 1);
+            due(what + "the bank", x.isOn(2), 1);
+            due(what + "the regulator's timer", x.timer(1), 2);
+            due(what + "the third turn", x.run(1), 1);
+            due(what + "locks", x.isLocked(1), 1);
+            due(what + "the tap", x.tap(1), 100);
+            due(what + "the steps", x.steps(1), 4);
+            FeederControl locked = remembering();
+            locked.setSource(11000);
+            due(what + "the bank and the third turn", locked.run(3), 2);
+            locked.setFactor(23, 50);
+            CALLS_THAT_LEAVE_WISHES.get(i).on(locked);
+            due(what + "still locked", locked.isLocked(1), 1);
+            due(what + "still 4 steps", locked.steps(1), 4);
+        }
+        FeederControl byHand = oneNode(0, 0, 0, 0);
+        byHand.addRegulator(1, 10000, 100, 9, 0);
+        byHand.setTap(1, -8);
+        due("P13 it wishes up", byHand.run(5), 0);
+        due("P10 put high by hand", byHand.setTap(1, 8), 92);
+        due("P10 the timer stays", byHand.timer(1), 5);
+        due("P13 the opposite wish after a tap by hand", byHand.run(1), 0);
+        due("P13 the opposite wish after a tap by hand", byHand.timer(1), 1);
+    }
+
     private static void promise14() {
         changesNothing("P14 asking changes nothing", BUSY, x -> x.minute(), 3);
         FeederControl x = new FeederControl();
@@ -1538,6 +1632,7 @@ public final class BoundaryTests {
             due("P25 in a later hour", later.planTap(1, hour), odd.planTap(1, hour));
         }
         promise25FromTheTapsOfNow();
+        promise25BetweenTheLastTwoTaps();
     }
 
     private static void promise25FromTheTapsOfNow() {
@@ -1560,6 +1655,43 @@ public final class BoundaryTests {
         due("P15 node 7", full.voltage(7), 10442);
         due("P24 the 8th regulator", full.planSteps(8), 2);
         due("P25 the 8th regulator", full.planTap(8, 12), 86);
+    }
+
+    /** Loads press the voltage down but from hour 8 to hour 15: then there are none, and banks by time raise it. */
+    private static FeederControl pressedAndRaised(int source, int factor, int kvar) {
+        FeederControl x = oneNode(50, 50, 500, 300);
+        for (int k = 2; k <= 8; k++) {
+            x.addNode(0, 0, 500, 300);
+        }
+        x.setSource(source);
+        x.addRegulator(1, 10000, 500, 30, 0);
+        for (int k = 1, left = kvar; left > 0; k++, left -= 300) {
+            x.addBank(k, Math.min(300, left), 1, 8, 16, 0);
+        }
+        due("P8 items", parse(x, "0-23:" + factor + "; 8-15:0;"), 2);
+        return x;
+    }
+
+    private static void lastTapsAre(FeederControl x, int now, int steps, int pressed, int raised) {
+        x.setTap(1, now);
+        due("P24 between the last taps, from tap " + now, x.planSteps(1), steps);
+        for (int hour = 0; hour < 24; hour++) {
+            due("P25 between the last taps, from tap " + now + " in hour " + hour, x.planTap(1, hour),
+                100 + (hour < 8 || hour > 15 ? pressed : raised));
+        }
+    }
+
+    private static void promise25BetweenTheLastTwoTaps() {
+        // pressed: tap -16 gives 9484, tap -15 gives 9552; raised: tap -16 gives 10500, tap -15 gives 10568
+        FeederControl low = pressedAndRaised(11000, 13, 1200);
+        lastTapsAre(low, 0, 17, -15, -16);
+        lastTapsAre(low, -15, 2, -15, -16);
+        lastTapsAre(low, -16, 3, -15, -16);
+        // pressed: tap 15 gives 9459, tap 16 gives 9516; raised: tap 15 gives 10493, tap 16 gives 10550
+        FeederControl high = pressedAndRaised(9000, 12, 1300);
+        lastTapsAre(high, 0, 18, 16, 15);
+        lastTapsAre(high, 15, 3, 16, 15);
+        lastTapsAre(high, 16, 2, 16, 15);
     }
 
     // ---- state
